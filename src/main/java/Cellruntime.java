@@ -6,7 +6,7 @@ import java.util.Arrays;
  *
  * <p>What is asked and told from outside stands first; then the classes that do it: {@link Pool} (expressions),
  * {@link Types}, {@link Methods}, {@link Need} and {@link Checker} (what is right), {@link Frame}, {@link Frames},
- * {@link Memory}, {@link Reach}, {@link Words}, {@link Faults} and {@link Machine} (running), {@link Teller} (texts).
+ * {@link Memory}, {@link Reach}, {@link Words}, {@link Faults} and {@link Machine} (running).
  */
 public final class Cellruntime {
     private static final int NONE = -1;
@@ -582,28 +582,28 @@ public final class Cellruntime {
         if (what < 0 || what > 2) throw new IllegalArgumentException();
         if (k < 0 || k >= walker.frames.values(frame, what)) throw new IndexOutOfBoundsException();
         text.setLength(0);
-        walker.teller.tellEntry(text, frame, what, k);
+        walker.reach.tellEntry(text, frame, what, k);
         return text.toString();
     }
 
     public int reached(int k) throws IllegalStateException {
         needWalk();
-        walker.mark();
+        walker.reach.mark();
         return walker.reach.number(k);
     }
 
     public String thing(int number) throws IllegalStateException {
         needWalk();
-        walker.mark();
+        walker.reach.mark();
         if (!walker.reach.isReached(number)) return "-";
         text.setLength(0);
-        walker.teller.tellThing(text, number);
+        walker.reach.tellThing(text, number);
         return text.toString();
     }
 
     public int collect() throws IllegalStateException {
         needWalk();
-        return walker.gather();
+        return walker.reach.gather();
     }
 
     // ---- the whole
@@ -621,7 +621,7 @@ public final class Cellruntime {
 
     public boolean isSound() {
         checker.through(0, methods.many);
-        return checker.allStand() && (!walks || walker.isWell());
+        return checker.allStand() && (!walks || walker.reach.isWell());
     }
 
     public long digest() {
@@ -635,7 +635,7 @@ public final class Cellruntime {
         for (int k = 0; k < RUN_FACTS; k++) mix(last[k]);
         mix(lastOut.length());
         if (walks) mixWalk();
-        mix(checker.allStand() && (!walks || walker.isWell()) ? 1 : 0);
+        mix(checker.allStand() && (!walks || walker.reach.isWell()) ? 1 : 0);
         return sum;
     }
 
@@ -758,8 +758,8 @@ public final class Cellruntime {
             case 3: return walker.fact(2);
             case 4: return walker.fact(3);
             case 5: return walker.frames.depth;
-            case 6: walker.mark(); return walker.reach.many;
-            case 7: return walker.mark();
+            case 6: walker.reach.mark(); return walker.reach.many;
+            case 7: return walker.reach.mark();
             default: return walker.memory.pins;
         }
     }
@@ -817,16 +817,16 @@ public final class Cellruntime {
             mixText();
             for (int what = 0; what <= 2; what++) {
                 for (int k = 0; k < walker.frames.values(f, what); k++) {
-                    walker.teller.tellEntry(text, f, what, k);
+                    walker.reach.tellEntry(text, f, what, k);
                     mixText();
                 }
             }
         }
-        walker.mark();
+        walker.reach.mark();
         for (int n = 1; n <= walker.memory.made; n++) {
             if (!walker.reach.isReached(n)) continue;
             mix(n);
-            walker.teller.tellThing(text, n);
+            walker.reach.tellThing(text, n);
             mixText();
         }
     }
@@ -941,7 +941,7 @@ public final class Cellruntime {
         int forArgument(int e, int with) {
             if (with == NONE || hasT[e] == 0) return e;
             int deep = 0;
-            for (int k = e; sorts[k] != T; k = inner(k)) deep++;
+            for (int k = inner(e); k != NONE; k = inner(k)) deep++;
             int made = with;
             for (int d = deep - 1; d >= 0; d--) {
                 int outer = e;
@@ -984,14 +984,10 @@ public final class Cellruntime {
                 case INT: text.append("int"); break;
                 case OBJECT: text.append("object"); break;
                 case FAULT: text.append("fault"); break;
-                case T: text.append("T"); break;
+                case T: text.append('T'); break;
                 default: text.append('t').append(of[core]); break;
             }
-            tellEnds(text, e);
-        }
-
-        /** What stands behind comes from the inside out: it is told from the outside in, then turned round. */
-        private void tellEnds(StringBuilder text, int e) {
+            // What stands behind comes from the inside out: it is told from the outside in, then turned round.
             int low = text.length();
             for (int k = e; inner(k) != NONE; k = inner(k)) {
                 if (sorts[k] == APPLIED) text.append('>');
@@ -1177,7 +1173,7 @@ public final class Cellruntime {
         boolean isUnder(int x, int y) {
             int a = x;
             int b = y;
-            while (isReference(a) && isReference(b)) {
+            for (int n = 0; n < ENOUGH && isReference(a) && isReference(b); n++) {
                 if (b == OBJECT) return true;
                 for (int c = a; c != NONE; c = baseOf(c)) if (c == b || hasContractFor(c, b)) return true;
                 if (pool.sort(a) != ROW_OF || pool.sort(b) != ROW_OF) return false;
@@ -1185,6 +1181,11 @@ public final class Cellruntime {
                 b = pool.inner(b);
             }
             return false;
+        }
+
+        /** Whether a BOX of that type, if it is one, IS OF another type x. */
+        boolean isBoxOf(int type, int x) {
+            return isValue(type) && (x == OBJECT || hasContractFor(type, x));
         }
 
         /** Whether x is an EXPRESSION that is GOOD in that TYPE (of NONE: without T). */
@@ -1238,7 +1239,7 @@ public final class Cellruntime {
             return at + (b == FAULT ? 3 : 2);
         }
 
-        /** The FIELDS of an object of x as they lie there, with their types; how many. */
+        /** The FIELDS of an object of x as they lie there, with their types, ahead of all its CODE if it has one; how many. */
         int layOut(int x, int[] type, int[] at) {
             int deep = 0;
             int b = x;
@@ -1246,8 +1247,13 @@ public final class Cellruntime {
                 chain[deep++] = b;
                 b = pool.forArgument(baseExprs[pool.typeOf(b)], pool.argumentOf(b));
             }
-            int place = b == FAULT ? 3 : 2;
+            int place = 2;
             int count = 0;
+            if (b == FAULT) {
+                type[0] = INT;
+                at[0] = place++;
+                count = 1;
+            }
             for (int k = deep - 1; k >= 0; k--) {
                 for (int f = 0; f < fields; f++) {
                     if (!isPart(f, pool.typeOf(chain[k]))) continue;
@@ -1357,11 +1363,11 @@ public final class Cellruntime {
             return lines[(m * MOST_LINES + p) * 3 + 2];
         }
 
-        int given(int m, int k) {
+        int givenExpr(int m, int k) {
             return given[m * MOST_GIVEN + k];
         }
 
-        int local(int m, int k) {
+        int localExpr(int m, int k) {
             return locals[m * MOST_LOCALS + k];
         }
 
@@ -1379,8 +1385,8 @@ public final class Cellruntime {
 
         /** The expression of a PARAMETER, as the METHOD itself sees it. */
         int parameter(int m, int k) {
-            if (fact(m, MODE) == STATIC) return given(m, k);
-            if (k > 0) return given(m, k - 1);
+            if (fact(m, MODE) == STATIC) return givenExpr(m, k);
+            if (k > 0) return givenExpr(m, k - 1);
             int self = types.self(fact(m, TYPE_OF));
             return kindOfOwner(m) == STRUCT ? pool.make(PLACE_OF, self, NONE) : self;
         }
@@ -1401,7 +1407,7 @@ public final class Cellruntime {
         boolean areSigned(int m, int with, int n, int other) {
             int count = fact(m, GIVEN);
             if (count != fact(n, GIVEN)) return false;
-            for (int k = 0; k < count; k++) if (!pool.areAlike(given(m, k), with, given(n, k), other)) return false;
+            for (int k = 0; k < count; k++) if (!pool.areAlike(givenExpr(m, k), with, givenExpr(n, k), other)) return false;
             int r = fact(m, RESULT);
             int s = fact(n, RESULT);
             if (r == NONE || s == NONE) return r == s;
@@ -1444,7 +1450,7 @@ public final class Cellruntime {
         boolean isEntry(int m) {
             if (fact(m, MODE) != STATIC || types.isOpen(fact(m, TYPE_OF))) return false;
             if (fact(m, RESULT) != NONE && fact(m, RESULT) != INT) return false;
-            for (int k = 0; k < fact(m, GIVEN); k++) if (given(m, k) != INT) return false;
+            for (int k = 0; k < fact(m, GIVEN); k++) if (givenExpr(m, k) != INT) return false;
             return true;
         }
 
@@ -1608,7 +1614,7 @@ public final class Cellruntime {
                 case ARG: case SETARG: case ARGP:
                     return a >= 0 && a < methods.parameters(method) && readSlot(methods.parameter(method, a));
                 case LOC: case SETLOC: case LOCP:
-                    return a >= 0 && a < methods.fact(method, LOCALS) && readSlot(methods.local(method, a));
+                    return a >= 0 && a < methods.fact(method, LOCALS) && readSlot(methods.localExpr(method, a));
                 case IF: case IFNOT: want(TRUTH, NONE); break;
                 default: break;
             }
@@ -1660,7 +1666,7 @@ public final class Cellruntime {
         /** What m is given FOR x, and its RESULT. */
         private void readSignature(int m, int x) {
             int with = pool.argumentOf(x);
-            for (int k = 0; k < methods.fact(m, GIVEN); k++) want(INTO, pool.forArgument(methods.given(m, k), with));
+            for (int k = 0; k < methods.fact(m, GIVEN); k++) want(INTO, pool.forArgument(methods.givenExpr(m, k), with));
             int result = methods.fact(m, RESULT);
             if (result != NONE) leave(pool.forArgument(result, with), AS_GIVEN);
         }
@@ -1726,8 +1732,11 @@ public final class Cellruntime {
                 case UNDER: return isNull || types.isUnder(e, x);
                 case JUST_PLACE: return !isNull && pool.isPlaceOf(e, x);
                 case PLACE_OR_VALUE: return !isNull && (e == x || pool.isPlaceOf(e, x));
-                case TARGET: return !isNull && isSignedAt(types.baseAt(e, methods.fact(a, TYPE_OF)));
                 default: break;
+            }
+            if (mode[k] == TARGET) {
+                int h = isNull ? NONE : types.baseAt(e, methods.fact(a, TYPE_OF));
+                return h != NONE && isSignedWith(pool.argumentOf(h));
             }
             if (mode[k] == PLACE_TO_CALL) {
                 if (isNull || pool.sort(e) != PLACE_OF) return false;
@@ -1740,11 +1749,7 @@ public final class Cellruntime {
             return mode[k] == ROW_FOR_AT && types.isUnder(of, x) || mode[k] == ROW_FOR_PUT && types.isUnder(x, of);
         }
 
-        /** Whether the METHOD that is bound to a target that has h as one of its BASES is signed as the DELEGATE's. */
-        private boolean isSignedAt(int h) {
-            return h != NONE && isSignedWith(pool.argumentOf(h));
-        }
-
+        /** Whether the METHOD that is bound, with T replaced so, is signed as the one of the DELEGATE. */
         private boolean isSignedWith(int argument) {
             return methods.areSigned(a, argument, methods.firstOf(pool.typeOf(b)), pool.argumentOf(b));
         }
@@ -1794,7 +1799,7 @@ public final class Cellruntime {
 
         void forgetAll() {
             areTypesJudged = false;
-            Arrays.fill(isChecked, false);
+            for (int m = 0; m < MOST_METHODS; m++) isChecked[m] = false;
         }
 
         // ---- what is told of it, behind through()
@@ -1883,8 +1888,10 @@ public final class Cellruntime {
         private void begin(int m) {
             kinds[m] = 0;
             places[m] = NONE;
-            Arrays.fill(waits, false);
-            for (int p = 0; p < MOST_LINES; p++) lengths[m * MOST_LINES + p] = NONE;
+            for (int p = 0; p < MOST_LINES; p++) {
+                waits[p] = false;
+                lengths[m * MOST_LINES + p] = NONE;
+            }
             if (!methods.hasCode(m)) return;
             if (!whole[methods.fact(m, TYPE_OF)]) {
                 fail(m, NOT_WHOLE, NONE);
@@ -2205,10 +2212,10 @@ public final class Cellruntime {
             boolean hasThis = methods.fact(m, MODE) != STATIC;
             int k = 0;
             if (hasThis) f.slotType[k++] = types.isReference(holder) ? holder : pool.make(PLACE_OF, holder, NONE);
-            for (int g = 0; g < methods.fact(m, GIVEN); g++) f.slotType[k++] = pool.forArgument(methods.given(m, g), with);
+            for (int g = 0; g < methods.fact(m, GIVEN); g++) f.slotType[k++] = pool.forArgument(methods.givenExpr(m, g), with);
             for (int g = 0; g < k; g++) end = laySlot(f, g, end);
             for (int l = 0; l < methods.fact(m, LOCALS); l++) {
-                f.slotType[FIRST_LOCAL + l] = pool.forArgument(methods.local(m, l), with);
+                f.slotType[FIRST_LOCAL + l] = pool.forArgument(methods.localExpr(m, l), with);
                 end = laySlot(f, FIRST_LOCAL + l, end);
             }
             f.end = end;
@@ -2284,6 +2291,7 @@ public final class Cellruntime {
         final int[] where = new int[THINGS];
         final int[] size = new int[THINGS];
         int made;
+        int uncaught;
         private final int[] gapFrom = new int[MOST_PINS + 1];
         private final int[] gapEnd = new int[MOST_PINS + 1];
         private int gaps;
@@ -2304,6 +2312,7 @@ public final class Cellruntime {
 
         void begin() {
             made = 0;
+            uncaught = 0;
             pins = 0;
             staticMany = 0;
             staticEnd = 0;
@@ -2421,7 +2430,7 @@ public final class Cellruntime {
         }
     }
 
-    /** What is REACHED, and the collections that keep just that. */
+    /** What is REACHED: the collections that keep just that, its texts, and whether it is sound. */
     static final class Reach {
         private final Memory memory;
         private final Frames frames;
@@ -2429,8 +2438,9 @@ public final class Cellruntime {
         private final Pool pool;
         final boolean[] isKept = new boolean[Memory.THINGS];
         private final int[] queue = new int[Memory.THINGS];
-        private final int[] layType = new int[MOST_FIELDS];
-        private final int[] layAt = new int[MOST_FIELDS];
+        private final StringBuilder own = new StringBuilder();
+        private final int[] layType = new int[MOST_FIELDS + 1];
+        private final int[] layAt = new int[MOST_FIELDS + 1];
         int many;
         int cells;
 
@@ -2442,11 +2452,11 @@ public final class Cellruntime {
         }
 
         /** Marks what is REACHED; its CELLS. */
-        int mark(int uncaught) {
-            Arrays.fill(isKept, false);
+        int mark() {
+            for (int n = 0; n < isKept.length; n++) isKept[n] = false;
             many = 0;
             cells = 0;
-            note(uncaught);
+            note(memory.uncaught);
             for (int k = 0; k < frames.depth; k++) markFrame(k);
             for (int k = 0; k < memory.pins; k++) note(memory.pin[k]);
             for (int k = 0; k < memory.staticMany; k++) {
@@ -2509,8 +2519,8 @@ public final class Cellruntime {
         }
 
         /** A collection; CELLS of what is REACHED. */
-        int gather(int uncaught) {
-            mark(uncaught);
+        int gather() {
+            mark();
             memory.compact(isKept);
             return cells;
         }
@@ -2530,18 +2540,111 @@ public final class Cellruntime {
             return NONE;
         }
 
+        // ---- values and THINGS as texts
+
+        /** A PARAMETER, a LOCAL or an entry of the stack (0, 1, 2) of a FRAME. */
+        void tellEntry(StringBuilder text, int frame, int what, int k) {
+            Frame f = frames.all[frame];
+            Frame owner = frames.all[f.owner];
+            int slot = Frames.slot(what == 1, k);
+            if (what == 2) tellValue(text, f.type[k], frames.cells, f.at[k]);
+            else tellValue(text, owner.slotType[slot], frames.cells, owner.slotAt[slot]);
+        }
+
+        /** (A PLACE leads to no PLACE, and a STRUCT has only such of smaller numbers in it, so this comes to an end.) */
+        private void tellValue(StringBuilder text, int type, int[] room, int at) {
+            if (type == INT) {
+                text.append(room[at]);
+            } else if (pool.sort(type) == PLACE_OF) {
+                text.append('&');
+                tellValue(text, pool.inner(type), memory.room(room[at]), memory.address(room[at], room[at + 1]));
+            } else if (types.kindOf(type) != STRUCT && room[at] == 0) {
+                text.append("null");
+            } else if (types.kindOf(type) != STRUCT) {
+                pool.tell(text, memory.typeOf(room[at]));
+                text.append('#').append(room[at]);
+            } else {
+                text.append('(');
+                int place = at;
+                for (int f = 0; f < types.fields; f++) {
+                    if (!types.isPart(f, pool.typeOf(type))) continue;
+                    if (place > at) text.append(',');
+                    tellValue(text, types.fieldExpr(f), room, place);
+                    place += types.cells(types.fieldExpr(f));
+                }
+                text.append(')');
+            }
+        }
+
+        void tellThing(StringBuilder text, int thing) {
+            int at = memory.where[thing];
+            int type = memory.heap[at];
+            if (types.isValue(type)) {
+                text.append('<');
+                tellValue(text, type, memory.heap, at + 2);
+                text.append('>');
+            } else if (pool.sort(type) == ROW_OF) {
+                tellRow(text, thing);
+            } else if (types.kindOf(type) == DELEGATE) {
+                text.append('m').append(memory.cell(thing, 0)).append('(');
+                if (memory.cell(thing, 2) != 0) tellValue(text, OBJECT, memory.heap, at + 4);
+                text.append(')');
+            } else {
+                tellObject(text, at, type);
+            }
+        }
+
+        private void tellRow(StringBuilder text, int row) {
+            int of = pool.inner(memory.typeOf(row));
+            text.append('[');
+            for (int k = 0; k < memory.cell(row, 0); k++) {
+                if (k > 0) text.append(',');
+                tellValue(text, of, memory.heap, memory.where[row] + 3 + k * types.cells(of));
+            }
+            text.append(']');
+        }
+
+        private void tellObject(StringBuilder text, int at, int type) {
+            text.append('{');
+            int fields = types.layOut(type, layType, layAt);
+            for (int k = 0; k < fields; k++) {
+                if (k > 0) text.append(',');
+                tellValue(text, layType[k], memory.heap, at + layAt[k]);
+            }
+            text.append('}');
+        }
+
+        /** A number that tells of a change of any text of a value or of a THING that is REACHED. */
+        private long sumOfTexts() {
+            long sum = 0;
+            for (int f = 0; f < frames.depth; f++) {
+                for (int what = 0; what <= 2; what++) {
+                    for (int k = 0; k < frames.values(f, what); k++) {
+                        own.setLength(0);
+                        tellEntry(own, f, what, k);
+                        sum = added(sum);
+                    }
+                }
+            }
+            for (int n = 1; n <= memory.made; n++) {
+                if (!isKept[n]) continue;
+                own.setLength(0);
+                tellThing(own, n);
+                sum = added(sum * 31 + n);
+            }
+            return sum;
+        }
+
+        private long added(long sum) {
+            long all = sum;
+            for (int k = 0; k < own.length(); k++) all = all * 31 + own.charAt(k);
+            return all;
+        }
+
         // ---- whether the memory is sound
 
         private boolean isThing(int n) {
             return n > 0 && n <= memory.made && memory.where[n] > 0 && memory.heap[memory.where[n] + 1] == n;
-        }
-
-        /** Whether it IS OF x. */
-        boolean isOf(int thing, int x) {
-            int type = memory.typeOf(thing);
-            if (type == x) return true;
-            if (types.isValue(type)) return x == OBJECT || types.holds(type, x, NONE);
-            return types.isUnder(type, x);
         }
 
         /** Whether what lies there is a value of that type; a PLACE has to lead to one of its own. */
@@ -2551,7 +2654,12 @@ public final class Cellruntime {
                 return leadsIn(room[at], room[at + 1], types.cells(pool.inner(type)))
                     && fits(pool.inner(type), memory.room(room[at]), memory.address(room[at], room[at + 1]));
             }
-            if (types.kindOf(type) != STRUCT) return room[at] == 0 || isThing(room[at]) && isOf(room[at], type);
+            if (types.kindOf(type) != STRUCT) {
+                if (room[at] == 0) return true;
+                if (!isThing(room[at])) return false;
+                int of = memory.typeOf(room[at]);
+                return types.isBoxOf(of, type) || types.isUnder(of, type);
+            }
             int place = at;
             for (int f = 0; f < types.fields; f++) {
                 if (!types.isPart(f, pool.typeOf(type))) continue;
@@ -2567,7 +2675,7 @@ public final class Cellruntime {
             return far >= 0 && far + size <= most;
         }
 
-        private boolean doesFrameFit(int k) {
+        private boolean isFrameFit(int k) {
             Frame f = frames.all[k];
             for (int what = 0; what <= 1 && f.owner == k; what++) {
                 for (int v = 0; v < frames.values(k, what); v++) {
@@ -2579,7 +2687,7 @@ public final class Cellruntime {
             return true;
         }
 
-        private boolean doesThingFit(int n) {
+        private boolean isThingFit(int n) {
             if (!isThing(n)) return false;
             int at = memory.where[n];
             int type = memory.heap[at];
@@ -2604,16 +2712,31 @@ public final class Cellruntime {
             return true;
         }
 
-        /** Whether all values are of their types, all THINGS lie apart, and PINS lie where they lay. */
-        boolean isSoundMemory(int uncaught) {
-            mark(uncaught);
-            for (int k = 0; k < frames.depth; k++) if (!doesFrameFit(k)) return false;
-            for (int n = 1; n <= memory.made; n++) if (isKept[n] && !(doesThingFit(n) && liesApart(n))) return false;
+        private boolean areStaticsFit() {
             for (int k = 0; k < memory.staticMany; k++) {
                 int type = pool.forArgument(types.fieldExpr(memory.staticField[k]), pool.argumentOf(memory.staticOf[k]));
                 if (!fits(type, memory.statics, memory.staticAt[k])) return false;
             }
-            for (int k = 0; k < memory.pins; k++) if (memory.where[memory.pin[k]] != memory.pinAt[k]) return false;
+            return true;
+        }
+
+        /**
+         * Whether all values are of their types, all THINGS lie apart, and PINS lie where they lay; also behind a
+         * collection, which changes nothing that is told of them.
+         */
+        boolean isWell() {
+            long before = 0;
+            for (int round = 0; round < 2; round++) {
+                mark();
+                for (int k = 0; k < frames.depth; k++) if (!isFrameFit(k)) return false;
+                for (int n = 1; n <= memory.made; n++) if (isKept[n] && !(isThingFit(n) && liesApart(n))) return false;
+                for (int k = 0; k < memory.pins; k++) if (memory.where[memory.pin[k]] != memory.pinAt[k]) return false;
+                if (!areStaticsFit()) return false;
+                long sum = sumOfTexts();
+                if (round == 1) return sum == before;
+                before = sum;
+                memory.compact(isKept);
+            }
             return true;
         }
     }
@@ -2737,7 +2860,6 @@ public final class Cellruntime {
         private final Pool pool;
         private final Memory memory;
         private final Frames frames;
-        int uncaught;
         private int phase;
         private int fault;
         private int from;
@@ -2869,7 +2991,7 @@ public final class Cellruntime {
                 fault = f.fault;
                 seekFrom(f.seeker, f.test + 1);
             } else if (frames.depth == 0) {
-                uncaught = fault;
+                memory.uncaught = fault;
                 phase = RESTS;
             } else {
                 unwindTo(meantFrame, meantHandler);
@@ -2928,7 +3050,6 @@ public final class Cellruntime {
         final Reach reach;
         final Words words;
         final Faults faults;
-        final Teller teller;
         int limit;
         int end = NONE;
         private int way;
@@ -2952,7 +3073,6 @@ public final class Cellruntime {
             this.reach = new Reach(memory);
             this.words = new Words(methods);
             this.faults = new Faults(memory);
-            this.teller = new Teller(memory);
         }
 
         // ---- from outside
@@ -2962,16 +3082,14 @@ public final class Cellruntime {
             frames.depth = 0;
             memory.begin();
             words.begin(areShared);
-            faults.uncaught = 0;
             end = NONE;
             steps = 0;
             code = 0;
             result = 0;
             outMany = 0;
             wantsGathering = false;
-            calledMethod = entry;
-            calledHolder = pool.make(NAMED, methods.fact(entry, TYPE_OF), NONE);
-            open();
+            Frame f = frames.open(entry, pool.make(NAMED, methods.fact(entry, TYPE_OF), NONE));
+            f.body = way == 1 ? words.bodyOf(entry, NONE) : NONE;
         }
 
         /** What the ENTRY is given. */
@@ -2992,21 +3110,6 @@ public final class Cellruntime {
                 case 3: return result;
                 default: return words.bodies;
             }
-        }
-
-        int mark() {
-            return reach.mark(faults.uncaught);
-        }
-
-        int gather() {
-            return reach.gather(faults.uncaught);
-        }
-
-        boolean isWell() {
-            if (!reach.isSoundMemory(faults.uncaught)) return false;
-            long before = teller.sum(reach);
-            reach.gather(faults.uncaught);
-            return reach.isSoundMemory(faults.uncaught) && teller.sum(reach) == before;
         }
 
         void tellOut(StringBuilder text) {
@@ -3047,7 +3150,8 @@ public final class Cellruntime {
                 int told;
                 if (operation < ADD) told = doSlots(f);
                 else if (operation < MAKE) told = doPlain(f);
-                else if (operation == MAKE || operation == BIND) told = doNew(f);
+                else if (operation == MAKE) told = doMake(f);
+                else if (operation == BIND) told = doBind(f);
                 else if (operation == INVOKE) told = doInvoke(f);
                 else if (operation < RET) told = doCall(f);
                 else if (operation == RET) told = doReturn(f);
@@ -3065,16 +3169,16 @@ public final class Cellruntime {
                 steps++;
                 seeEnd();
                 // Things are made ahead of this, so that each of them finds a gap without a collection in between.
-                if (wantsGathering || memory.isLow()) reach.gather(faults.uncaught);
+                if (wantsGathering || memory.isLow()) reach.gather();
                 wantsGathering = false;
             }
             return count;
         }
 
         private void seeEnd() {
-            if (end == NONE && faults.uncaught != 0) {
+            if (end == NONE && memory.uncaught != 0) {
                 end = UNCAUGHT;
-                code = memory.cell(faults.uncaught, 0);
+                code = memory.cell(memory.uncaught, 0);
             }
             if (end == NONE && steps >= MOST_STEPS) end = CUT;
         }
@@ -3174,7 +3278,7 @@ public final class Cellruntime {
                     f.pop(1);
                     return ON;
                 case CELLS:
-                    pushOne(f, INT, reach.mark(faults.uncaught));
+                    pushOne(f, INT, reach.mark());
                     return ON;
                 case PIN:
                     memory.addPin(top(f, 0));
@@ -3254,13 +3358,8 @@ public final class Cellruntime {
 
         // ---- THINGS
 
-        private boolean hasNoRoom(int cells) {
-            return reach.mark(faults.uncaught) + cells > limit;
-        }
-
-        private int doNew(Frame f) {
-            if (words.operation == BIND) return doBind(f);
-            if (reach.mark(faults.uncaught) + words.size > limit) return NO_ROOM;
+        private int doMake(Frame f) {
+            if (reach.mark() + words.size > limit) return NO_ROOM;
             pushOne(f, words.x, memory.create(words.x, words.size));
             return ON;
         }
@@ -3280,12 +3379,18 @@ public final class Cellruntime {
             } else {
                 holder = pool.make(NAMED, methods.fact(m, TYPE_OF), NONE);
             }
-            if (reach.mark(faults.uncaught) + 5 > limit) return NO_ROOM;
+            if (reach.mark() + 5 > limit) return NO_ROOM;
             int call = memory.create(words.x, 5);
             memory.setCell(call, 0, m);
             memory.setCell(call, 1, holder);
             memory.setCell(call, 2, target);
             return swap(f, hasTarget ? 1 : 0, words.x, call);
+        }
+
+        /** Whether a THING IS OF x. */
+        private boolean isOf(int thing, int x) {
+            int type = memory.typeOf(thing);
+            return type == x || types.isBoxOf(type, x) || types.isUnder(type, x);
         }
 
         private int doBox(Frame f) {
@@ -3295,17 +3400,17 @@ public final class Cellruntime {
             switch (words.operation) {
                 case BOX:
                     if (isReference) return swap(f, 1, OBJECT, thing);
-                    if (reach.mark(faults.uncaught) + words.size + 2 > limit) return NO_ROOM;
+                    if (reach.mark() + words.size + 2 > limit) return NO_ROOM;
                     int box = memory.create(x, words.size + 2);
                     System.arraycopy(frames.cells, f.atTop(0), memory.heap, memory.where[box] + 2, words.size);
                     return swap(f, 1, OBJECT, box);
                 case ISA:
-                    boolean isOne = thing != 0 && reach.isOf(thing, x);
+                    boolean isOne = thing != 0 && isOf(thing, x);
                     return swap(f, 1, isReference ? x : OBJECT, isOne ? thing : 0);
                 default:
                     break;
             }
-            if (isReference) return thing != 0 && !reach.isOf(thing, x) ? NOT_OF : swap(f, 1, x, thing);
+            if (isReference) return thing != 0 && !isOf(thing, x) ? NOT_OF : swap(f, 1, x, thing);
             if (thing == 0) return IS_NULL;
             if (memory.typeOf(thing) != x) return NOT_OF;
             f.pop(1);
@@ -3320,7 +3425,7 @@ public final class Cellruntime {
                 int length = top(f, 0);
                 if (length < 0 || length > MOST_ELEMENTS) return NO_LENGTH;
                 int cells = 3 + length * words.size;
-                if (reach.mark(faults.uncaught) + cells > limit) return NO_ROOM;
+                if (reach.mark() + cells > limit) return NO_ROOM;
                 int type = pool.make(ROW_OF, words.x, NONE);
                 int row = memory.create(type, cells);
                 memory.setCell(row, 0, length);
@@ -3336,7 +3441,7 @@ public final class Cellruntime {
             boolean isReference = types.isReference(words.x);
             int far = 3 + k * words.size;
             if (operation == PUT) {
-                if (isReference && top(f, 0) != 0 && !reach.isOf(top(f, 0), of)) return NOT_IN_ROW;
+                if (isReference && top(f, 0) != 0 && !isOf(top(f, 0), of)) return NOT_IN_ROW;
                 System.arraycopy(frames.cells, f.atTop(0), memory.heap, memory.where[row] + far, words.size);
                 f.pop(3);
                 return ON;
@@ -3350,16 +3455,10 @@ public final class Cellruntime {
 
         // ---- calls
 
-        /** The FRAME of what is called, all that it is given 0 or NULL yet. */
-        private Frame open() {
+        /** The FRAME of what is called gets THIS and what lies on top of the stack; then so many entries go. */
+        private int enter(Frame f, int given, int gone) {
             Frame g = frames.open(calledMethod, calledHolder);
             g.body = way == 1 ? words.bodyOf(calledMethod, pool.argumentOf(calledHolder)) : NONE;
-            return g;
-        }
-
-        /** Gives it THIS and what lies on top of the stack; then so many entries go. */
-        private int enter(Frame f, int given, int gone) {
-            Frame g = open();
             int first = methods.fact(calledMethod, MODE) == STATIC ? 0 : 1;
             if (first == 1) {
                 frames.cells[g.slotAt[0]] = thisLead;
@@ -3433,131 +3532,6 @@ public final class Cellruntime {
             if (told != NONE) pushCopy(g, type, types.cells(type), frames.cells, f.atTop(0));
             g.place++;
             return MOVED;
-        }
-    }
-
-    /** Values and THINGS as texts. */
-    static final class Teller {
-        private final Memory memory;
-        private final Frames frames;
-        private final Types types;
-        private final Pool pool;
-        private final StringBuilder own = new StringBuilder();
-        private final int[] layType = new int[MOST_FIELDS];
-        private final int[] layAt = new int[MOST_FIELDS];
-
-        Teller(Memory memory) {
-            this.memory = memory;
-            this.frames = memory.frames;
-            this.types = memory.types;
-            this.pool = memory.types.pool;
-        }
-
-        /** A PARAMETER, a LOCAL or an entry of the stack (0, 1, 2) of a FRAME. */
-        void tellEntry(StringBuilder text, int frame, int what, int k) {
-            Frame f = frames.all[frame];
-            Frame owner = frames.all[f.owner];
-            int slot = Frames.slot(what == 1, k);
-            if (what == 2) tellValue(text, f.type[k], frames.cells, f.at[k]);
-            else tellValue(text, owner.slotType[slot], frames.cells, owner.slotAt[slot]);
-        }
-
-        private void tellName(StringBuilder text, int thing) {
-            if (thing == 0) {
-                text.append("null");
-                return;
-            }
-            pool.tell(text, memory.typeOf(thing));
-            text.append('#').append(thing);
-        }
-
-        /** (A PLACE leads to no PLACE, and a STRUCT has only such of smaller numbers in it, so this comes to an end.) */
-        private void tellValue(StringBuilder text, int type, int[] room, int at) {
-            if (type == INT) {
-                text.append(room[at]);
-            } else if (pool.sort(type) == PLACE_OF) {
-                text.append('&');
-                tellValue(text, pool.inner(type), memory.room(room[at]), memory.address(room[at], room[at + 1]));
-            } else if (types.kindOf(type) != STRUCT) {
-                tellName(text, room[at]);
-            } else {
-                text.append('(');
-                int place = at;
-                for (int f = 0; f < types.fields; f++) {
-                    if (!types.isPart(f, pool.typeOf(type))) continue;
-                    if (place > at) text.append(',');
-                    tellValue(text, types.fieldExpr(f), room, place);
-                    place += types.cells(types.fieldExpr(f));
-                }
-                text.append(')');
-            }
-        }
-
-        void tellThing(StringBuilder text, int thing) {
-            int at = memory.where[thing];
-            int type = memory.heap[at];
-            if (types.isValue(type)) {
-                text.append('<');
-                tellValue(text, type, memory.heap, at + 2);
-                text.append('>');
-            } else if (pool.sort(type) == ROW_OF) {
-                tellRow(text, thing);
-            } else if (types.kindOf(type) == DELEGATE) {
-                text.append('m').append(memory.cell(thing, 0)).append('(');
-                if (memory.cell(thing, 2) != 0) tellName(text, memory.cell(thing, 2));
-                text.append(')');
-            } else {
-                tellObject(text, at, type);
-            }
-        }
-
-        private void tellRow(StringBuilder text, int row) {
-            int of = pool.inner(memory.typeOf(row));
-            text.append('[');
-            for (int k = 0; k < memory.cell(row, 0); k++) {
-                if (k > 0) text.append(',');
-                tellValue(text, of, memory.heap, memory.where[row] + 3 + k * types.cells(of));
-            }
-            text.append(']');
-        }
-
-        private void tellObject(StringBuilder text, int at, int type) {
-            boolean isFault = types.isUnder(type, FAULT);
-            text.append('{');
-            if (isFault) text.append(memory.heap[at + 2]);
-            int fields = types.layOut(type, layType, layAt);
-            for (int k = 0; k < fields; k++) {
-                if (k > 0 || isFault) text.append(',');
-                tellValue(text, layType[k], memory.heap, at + layAt[k]);
-            }
-            text.append('}');
-        }
-
-        /** A number that tells of a change of any text of a value or of a THING that is REACHED. */
-        long sum(Reach reach) {
-            long sum = 0;
-            for (int f = 0; f < frames.depth; f++) {
-                for (int what = 0; what <= 2; what++) {
-                    for (int k = 0; k < frames.values(f, what); k++) {
-                        own.setLength(0);
-                        tellEntry(own, f, what, k);
-                        sum = added(sum);
-                    }
-                }
-            }
-            for (int n = 1; n <= memory.made; n++) {
-                if (!reach.isReached(n)) continue;
-                own.setLength(0);
-                tellThing(own, n);
-                sum = added(sum * 31 + n);
-            }
-            return sum;
-        }
-
-        private long added(long sum) {
-            long all = sum;
-            for (int k = 0; k < own.length(); k++) all = all * 31 + own.charAt(k);
-            return all;
         }
     }
 }
