@@ -1371,6 +1371,16 @@ public final class Cellruntime {
             return locals[m * MOST_LOCALS + k];
         }
 
+        /** Whether there is what the numbers of an instruction tell, be it of the right sort or not. */
+        boolean canBeRead(int m, int p) {
+            switch (FORM[operation(m, p)]) {
+                case WITH_X: return pool.isNumber(a(m, p));
+                case WITH_METHOD: return pool.isNumber(b(m, p));
+                case WITH_FIELD: return pool.isNumber(b(m, p)) && a(m, p) >= 0 && a(m, p) < types.fields;
+                default: return true;
+            }
+        }
+
         int kindOfOwner(int m) {
             return types.kind(fact(m, TYPE_OF));
         }
@@ -2802,7 +2812,9 @@ public final class Cellruntime {
             if (end > words.length) words = Arrays.copyOf(words, Math.max(end, words.length * 2));
             bodyAt[body] = wordsEnd;
             for (int p = 0; p < lines; p++) {
-                read(m, p, with);
+                // What is never come to may tell any numbers; it stands in the BODY as a "nop".
+                if (methods.canBeRead(m, p)) read(m, p, with);
+                else operation = NOP;
                 words[wordsEnd + OPERATION] = operation;
                 words[wordsEnd + NUMBER] = a;
                 words[wordsEnd + EXPR] = x;
