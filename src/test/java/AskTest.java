@@ -280,6 +280,19 @@ public final class AskTest {
         c.param(2, 1);
         Due.is("25 above, FOR object", c.answer(bO, 0, aO), 2);
         Due.is("25 above, FOR T", c.answer(c.expr(1, 1, 3), 0, aT), 0);
+        int rowT = c.expr(2, 3, 0);
+        int rowInt = c.expr(2, 0, 0);
+        c.method(0, 2, 2, rowT);
+        c.param(3, rowT);
+        c.type(0, true, -1, aT);
+        int dT = c.expr(1, 2, 3);
+        int dInt = c.expr(1, 2, 0);
+        int[][] other = {{0, rowT}, {3, rowT}, {rowInt, rowInt}, {rowT, 3}, {1, rowT}};
+        for (int[] k : other) c.param(c.method(2, 2, 2, k[1]), k[0]);
+        c.method(2, 2, 2, rowT);
+        Due.is("25 T[] with T is just T[]", c.answer(dT, 3, aT), 3);
+        Due.is("25 FOR int it is int[]", c.answer(dInt, 3, aInt), 6);
+        Due.is("25 of what is given nothing", c.answer(dT, 9, dT), 9);
     }
 
     private static void ofField() {

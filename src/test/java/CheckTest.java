@@ -122,6 +122,15 @@ public final class CheckTest {
         Due.is("31 without INSTRUCTIONS", c.error(7), 6);
         Due.is("32 without INSTRUCTIONS", c.errorPlace(7), 0);
         due("arg 0; ret", "0 -1");
+        world();
+        Due.is("32 asked first", c.errorPlace(7), 0);
+        world();
+        Due.fails("33 asked first", Due.INDEX, () -> c.state(7, 0));
+        Due.is("33 asked of another one", c.state(3, 1), "t0");
+        c.cut(1, 1);
+        Due.is("52 asked first", c.house(7), 6);
+        c.method(2, 8, 2, -1);
+        Due.is("18 WHOLE asked first", c.ofType(3, 7), 0);
     }
 
     private static void notWhole() {
@@ -397,6 +406,12 @@ public final class CheckTest {
         Due.write(c, m, "num 1; ifnot 4; locp 0; go 5; arg 0; dup; pop; pop; arg 0; ret");
         Due.is("31 NEAR and FAR go together", c.error(m), 0);
         Due.is("33 that is NEAR", c.state(m, 5), "int&!");
+        c.change(m, 2, 3, 0, 0);
+        c.change(m, 4, 8, 0, 0);
+        Due.is("31 the other way round", c.error(m), 0);
+        Due.is("33 that is NEAR, too", c.state(m, 5), "int&!");
+        c.change(m, 4, 7, 0, 0);
+        Due.is("31 a PLACE of a PARAMETER that is one", c.error(m) + " " + c.errorPlace(m), "1 4");
     }
 
     private static void merges() {
@@ -612,6 +627,8 @@ public final class CheckTest {
         Due.is("31 0 lies in a BLOCK", c.error(7) + " " + c.errorPlace(7), "5 0");
         Due.is("33 it has its STATE", c.state(7, 0), "");
         Due.is("33 nothing was looked at", c.state(7, 1), "-");
+        c.change(7, 0, 1, 99999, 0);
+        Due.is("31 ahead of what 0 tells", c.error(7) + " " + c.errorPlace(7), "5 0");
         c.unhandle(7);
         error("nop; nop; leave 3; num 1; ret");
         c.handler(7, 1, 2, 3, 1, 2);

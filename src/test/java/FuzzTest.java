@@ -13,7 +13,7 @@ public final class FuzzTest {
     private static int rights;
 
     public static void main(String[] args) {
-        int many = args.length > 0 ? Integer.parseInt(args[0]) : 250;
+        int many = args.length > 0 ? Integer.parseInt(args[0]) : 300;
         int first = args.length > 1 ? Integer.parseInt(args[1]) : 1;
         int wrong = 0;
         for (int seed = first; seed < first + many && wrong < 3; seed++) {

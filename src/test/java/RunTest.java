@@ -64,6 +64,32 @@ public final class RunTest {
         due("num 12; row 0; setloc 0; num 3; row 0; pop; num 1; ret", "1 5 0 []");
         c.limit(21);
         Due.is("35 one more", Due.run(c, 0, 0, 0, 0), "0 0 1 []");
+        roomForEach();
+    }
+
+    /** Each kind of THING just fits, and does not by one CELL more. */
+    private static void roomForEach() {
+        world();
+        c.type(3, false, -1, -1);
+        int d = c.expr(0, 1, 0);
+        c.method(1, 0, 2, -1);
+        int s = c.method(0, 1, 0, -1);
+        Due.write(c, s, "ret");
+        c.local(0, 1);
+        String[] made = {"make 1", "make 2", "num 1; box 0", "bind " + s + " " + d, "num 0; row 0"};
+        int[] cells = {2, 3, 3, 5, 3};
+        for (int k = 0; k < made.length; k++) {
+            for (int less = 0; less <= 1; less++) {
+                c.limit(24);
+                due("num 12; row 0; setloc 0; " + made[k] + "; cells; out; pop; num 1; ret", "0 0 1 [" + (15 + cells[k]) + "]");
+                c.limit(20);
+                int length = 20 - 3 - cells[k] + less;
+                String want = less == 0 ? "0 0 1 []" : "1 5 0 []";
+                due("num " + Math.min(length, 12) + "; row 0; setloc 0; " + (length > 12 ? "nop" : made[k] + "; pop") + "; num 1; ret", length > 12 ? "0 0 1 []" : want);
+                // With an object of 2 CELLS beside the ROW.
+                due("num " + (length - 2) + "; row 0; setloc 0; make 1; " + made[k] + "; pop; pop; num 1; ret", length - 2 > 12 ? "1 8 0 []" : want);
+            }
+        }
     }
 
     private static void share() {
@@ -520,6 +546,19 @@ public final class RunTest {
         due("make 4; bind " + v0 + " " + d + "; num 8; invoke " + d + "; ret", "0 0 8 []");
         due("loc 1; bind " + own + " " + d + "; pop; num 1; ret", "1 1 0 []");
         due("null; num 8; invoke " + d + "; ret", "1 1 0 []");
+        c.type(0, true, -1, 1);
+        int gT = c.expr(1, 3, 3);
+        int gInt = c.expr(1, 3, 0);
+        int n = c.field(3, 0, true);
+        c.type(0, false, -1, gInt);
+        int h = c.expr(0, 4, 0);
+        int count = c.method(3, 4, 1, 0);
+        c.param(count, 0);
+        Due.write(c, count, "gets " + n + " " + gT + "; arg 1; add; dup; sets " + n + " " + gT + "; ret");
+        due("make " + h + "; bind " + count + " " + d + "; dup; num 8; invoke " + d + "; out; num 2; invoke " + d + "; out; gets " + n + " " + gInt + "; ret", "0 0 10 [8 10]");
+        c.walk(0, 0, 0, 0);
+        c.step(5);
+        Due.is("47 HOLDER of what is bound", c.holder(1) + " " + c.value(1, 0, 0), "t3<int> t4#1");
         c.limit(20);
         int o = c.expr(2, 0, 0);
         c.local(0, o);

@@ -306,6 +306,21 @@ public final class WalkTest {
         Due.is("49 all that they lead to, and a STATIC", c.reached(0) + "" + c.reached(1) + c.reached(2) + c.reached(3) + c.reached(4), "1234-1");
         Due.is("51 a collection", c.collect(), 3 + 3 + 5 + 2);
         Due.is("48 they lead there still", c.value(0, 2, 0) + c.value(0, 2, 1) + c.value(0, 2, 2), "&0&5&null");
+        Cellruntime d = world();
+        d.type(1, false, -1, -1);
+        int s = d.expr(0, 1, 0);
+        d.field(1, 0, false);
+        d.field(1, 1, false);
+        d.local(0, s);
+        Due.write(d, 0, "locp 0; make 1; set 1 " + s + "; loc 0; box " + s + "; num 2; row " + s + "; dup; num 1; loc 0; put " + s + "; locp 0; init " + s + "; nop; pop; num 1; "
+            + "box 0; pop; pop; num 1; ret");
+        d.walk(0, 0, 0, 0);
+        d.step(14);
+        Due.is("49 by a BOX and a ROW of STRUCTS", d.reached(0) + "" + d.reached(1) + d.reached(2) + d.thing(2) + d.thing(3), "123<(0,object#1)>[(0,null),(0,object#1)]");
+        d.step(1);
+        Due.is("49 by the BOX alone", d.reached(0) + "" + d.reached(1) + d.reached(2), "12-1");
+        d.step(4);
+        Due.is("49 by nothing", d.reached(0), -1);
         c.step(600);
         Due.is("49 STATICS behind the END", c.reached(0) + " " + c.reached(1), "4 -1");
     }
