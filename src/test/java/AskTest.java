@@ -209,6 +209,16 @@ public final class AskTest {
         Due.is("23 OBJECT is none", c.keeps(4, 1, -1), false);
         Due.is("23 a CLASS without", c.keeps(7, 4, -1), false);
         Due.is("23 INT", c.keeps(0, 4, -1), false);
+        c.type(2, false, -1, -1);
+        int second = c.expr(0, 4, 0);
+        int third = c.expr(1, 2, second);
+        Due.is("23 not yet", c.keeps(5, second, -1), false);
+        c.implement(1, second);
+        Due.is("23 the second CONTRACT", c.keeps(5, second, -1), true);
+        Due.is("23 the first one still", c.keeps(5, 4, -1), true);
+        Due.is("23 not another TYPE", c.keeps(third, second, -1), false);
+        Due.is("4 that again", c.implement(1, 4), -2);
+        c.sample(7);
         Due.fails("23 no EXPRESSION", Due.INDEX, () -> c.keeps(8, 4, -1));
         Due.fails("23 no EXPRESSION behind", Due.INDEX, () -> c.keeps(4, 8, -1));
         Due.fails("23 no TYPE", Due.INDEX, () -> c.keeps(4, 4, 4));
