@@ -17,7 +17,7 @@ public final class FuzzTest {
         int first = args.length > 1 ? Integer.parseInt(args[1]) : 1;
         int wrong = 0;
         for (int seed = first; seed < first + many && wrong < 3; seed++) {
-            int w = one(seed);
+            int w = one(seed) + acts(seed);
             if (w > 0) System.out.println("seed " + seed + ": " + w + " answers are not the same");
             if (w > 0) wrong++;
         }
@@ -41,6 +41,52 @@ public final class FuzzTest {
             runAll(random, both, round);
         }
         return both.wrong;
+    }
+
+    /** Acts with any numbers, most of them small. */
+    private static int acts(int seed) {
+        Random random = new Random(seed * 104729L);
+        Both both = new Both();
+        for (int n = 0; n < 260 && both.wrong == 0; n++) act(random, both);
+        both.compareTypes();
+        both.compareMethods();
+        if (seed % 9 == 0) both.compareAnswers();
+        for (Model.Me m : both.model.methods) both.compareRun(m, random.nextInt(2), 1, 2, 3);
+        both.same("isSound()", both.own.isSound(), true);
+        both.same("digest()", both.own.digest(), Due.digest(both.own));
+        return both.wrong;
+    }
+
+    private static int any(Random random, int many) {
+        return random.nextInt(20) == 0 ? random.nextInt(60) - 5 : random.nextInt(many + 1);
+    }
+
+    private static void act(Random random, Both both) {
+        Model model = both.model;
+        int t = any(random, model.types.size());
+        int x = any(random, model.xs.size());
+        int m = any(random, model.methods.size());
+        switch (random.nextInt(22)) {
+            case 0: case 1: both.type(any(random, 3), random.nextInt(3) == 0, random.nextInt(3) == 0 ? x : -1, random.nextInt(3) == 0 ? any(random, 8) : 1); break;
+            case 2: both.type(1 + random.nextInt(3), random.nextInt(3) == 0, random.nextInt(3) == 0 ? x : -1, -1); break;
+            case 3: both.expr(any(random, 1), t, x); break;
+            case 4: both.expr(1, t, x); break;
+            case 5: both.expr(any(random, 3), x, x); break;
+            case 6: case 7: both.implement(t, x); break;
+            case 8: case 9: both.field(t, x, random.nextInt(3) == 0); break;
+            case 10: case 11: both.method(t, any(random, 9), any(random, 2), random.nextBoolean() ? -1 : x); break;
+            case 12: both.param(m, x); break;
+            case 13: both.local(m, x); break;
+            case 14: case 15: case 16: both.code(m, any(random, 57), x, x); break;
+            case 17: both.change(m, any(random, 3), any(random, 57), x, t); break;
+            case 18: both.cut(m, any(random, 2)); break;
+            case 19: both.handler(m, any(random, 3), any(random, 2), any(random, 4), any(random, 5), any(random, 7)); break;
+            case 20: both.handles(m, any(random, 2), random.nextInt(45) - 2); break;
+            default:
+                if (random.nextInt(60) == 0) both.clear();
+                else if (random.nextInt(3) == 0) both.unhandle(m);
+                break;
+        }
     }
 
     private static void mutate(Random random, Both both) {
