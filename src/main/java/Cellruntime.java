@@ -2141,14 +2141,18 @@ public final class Cellruntime {
         int holder;
         int place;
         int body;
+        // The FRAME that has the PARAMETERS and LOCALS: another one for a TEST, otherwise itself.
         int owner;
+        // Of a TEST the HANDLER (NONE of others), its FAULT, and the FRAME that the HANDLER stands in.
         int test;
         int fault;
         int seeker;
+        // The stack: where its cells end, how many entries it has, of which types they are and where they lie.
         int end;
         int many;
         final int[] type = new int[MOST_STACK];
         final int[] at = new int[MOST_STACK];
+        // PARAMETERS, then LOCALS: their types and where they lie.
         final int[] slotType = new int[MOST_GIVEN + 1 + MOST_LOCALS];
         final int[] slotAt = new int[MOST_GIVEN + 1 + MOST_LOCALS];
         final int[] duties = new int[MOST_HANDLERS * DUTY];
