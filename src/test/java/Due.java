@@ -27,7 +27,8 @@ final class Due {
         System.out.println(call + " answered " + got + ", due is " + want);
     }
 
-    static void fails(String call, Class<?> want, Call of) {
+    /** What a call answers, or the class of the exception that it throws, is the one that is due. */
+    static void fails(String call, Object want, Call of) {
         Object got;
         try {
             got = of.get();

@@ -11,6 +11,8 @@ public final class ExtremeTest {
         unreadable();
         manyBodies();
         manyStatics();
+        manyCellsOfStatics();
+        manyExpressions();
         strangeNumbers();
         wholeHouse();
         Due.end("ExtremeTest");
@@ -260,6 +262,80 @@ public final class ExtremeTest {
         c.walk(e, 0, 0, 0);
         c.step(600);
         Due.is("54 sound", c.isSound(), true);
+    }
+
+    /** STATICS of 8 CELLS each, FOR nine ARGUMENTS: each one is by itself. */
+    private static void manyCellsOfStatics() {
+        Cellruntime c = new Cellruntime();
+        c.type(1, false, -1, -1);
+        int s = c.expr(0, 0, 0);
+        for (int k = 0; k < 4; k++) c.field(0, 0, false);
+        c.type(1, false, -1, -1);
+        int u = c.expr(0, 1, 0);
+        c.field(1, s, false);
+        c.field(1, s, false);
+        c.type(0, true, -1, 1);
+        int f = c.field(2, u, true);
+        int n = c.field(2, 0, true);
+        int m = c.method(2, 0, 0, 0);
+        int self = c.expr(1, 2, 3);
+        c.param(m, 0);
+        // The last INT of both becomes what is given; then all of it is told.
+        Due.write(c, m, "arg 0; ifnot 8; getsp " + f + " " + self + "; getp 5 " + u + "; getp 3 " + s + "; arg 0; store 0; nop; gets " + f + " " + self + "; get 5 " + u + "; get 3 "
+            + s + "; gets " + n + " " + self + "; num 1; add; sets " + n + " " + self + "; ret");
+        c.type(0, false, -1, 1);
+        int e = c.method(3, 0, 0, 0);
+        int[] of = {0, 1, 2, s, u, c.expr(2, 0, 0), c.expr(2, 1, 0), c.expr(2, s, 0), c.expr(0, 3, 0)};
+        StringBuilder code = new StringBuilder();
+        for (int k = 0; k < of.length; k++) code.append("num ").append(k + 1).append("; call ").append(m).append(' ').append(c.expr(1, 2, of[k])).append("; pop; ");
+        for (int k = 0; k < 2; k++) code.append("num 0; call ").append(m).append(' ').append(c.expr(1, 2, of[k * 8])).append("; out; ");
+        Due.write(c, e, code + "gets " + n + " " + c.expr(1, 2, u) + "; ret");
+        Due.is("37 each one by itself", Due.run(c, e, 0, 0, 0), "0 0 1 [1 9]");
+        c.walk(e, 0, 0, 0);
+        c.step(600);
+        Due.is("54 sound", c.isSound(), true);
+        Due.is("55 digest", c.digest(), Due.digest(c));
+    }
+
+    /** FOR each of some hundred ARGUMENTS those of LOCALS, PLACES, BASES and CONTRACTS come up. */
+    private static void manyExpressions() {
+        Cellruntime c = new Cellruntime();
+        c.type(2, false, -1, -1);
+        int i = c.expr(0, 0, 0);
+        int next = c.method(0, 0, 2, i);
+        c.type(0, true, -1, 1);
+        int rowT = c.expr(2, 3, 0);
+        int gT = c.expr(1, 1, 3);
+        int gRow = c.expr(1, 1, rowT);
+        c.implement(1, i);
+        c.method(1, 0, 2, i);
+        Due.write(c, 1, "null; throw");
+        c.type(0, true, -1, gRow);
+        int hRow = c.expr(1, 2, rowT);
+        int hgRow = c.expr(1, 2, gRow);
+        int hInt = c.expr(1, 2, 0);
+        int own = c.method(2, 0, 2, i);
+        for (int x : new int[] {rowT, gT, gRow, hRow}) c.local(own, x);
+        Due.write(c, own, "num 1; row 3; setloc 0; make " + hRow + "; setloc 3; make " + hgRow + "; ret");
+        c.type(0, false, -1, 1);
+        int m = c.method(3, 1, 0, -1);
+        c.local(m, i);
+        Due.write(c, m, "make " + hInt + "; setloc 0; loc 0; callv " + next + " " + i + "; setloc 0; go 2");
+        for (int k = 0; k < 2; k++) Due.is("37 a run", Due.run(c, m, 0, 0, 0), "2 0 0 []");
+        c.share(false);
+        c.run(m, 1, 0, 0, 0);
+        Due.is("39 BODIES that are not SHARED", c.ofRun(4) > 50, true);
+        c.walk(m, 0, 0, 0);
+        for (int k = 0; k < 10; k++) {
+            c.step(60);
+            Due.is("54 sound", c.isSound(), true);
+        }
+        Due.is("48 a long text", c.value(0, 1, 0).length() > 300, true);
+        Due.is("44 two at most", c.ofWalk(6) <= 4, true);
+        c.run(m, 0, 0, 0, 0);
+        Due.is("54 sound behind another run", c.isSound(), true);
+        Due.is("55 digest", c.digest(), Due.digest(c));
+        Due.is("19 none of them is numbered", c.exprs(), 11);
     }
 
     private static void strangeNumbers() {

@@ -132,7 +132,7 @@ public final class FuzzTest {
         boolean isRight = model.allRight();
         if (round == 0 && isRight) rights++;
         if (random.nextInt(4) == 0) {
-            int cells = 20 + random.nextInt(181);
+            int cells = 20 + random.nextInt(random.nextBoolean() ? 181 : 21);
             both.own.limit(cells);
             model.limit = cells;
         }

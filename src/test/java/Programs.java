@@ -42,6 +42,7 @@ final class Programs {
         for (int n = any(6); n > 0; n--) both.implement(any(model.types.size()), anyExpr());
         for (int n = 5 + any(12); n > 0; n--) makeMethod();
         answerAll();
+        for (int n = any(3); n > 0; n--) bindable();
         makeEntry();
         makeEntry();
         for (Model.Me m : model.methods) for (int n = any(5); n > 0; n--) both.local(m.no, anyExpr());
@@ -116,6 +117,23 @@ final class Programs {
         Model.X result = signature.get(signature.size() - 1);
         for (Model.X x : signature) if (x != null && numberOf(x) == Model.NONE) return;
         int m = both.method(t, asked.name, 2, result == null ? Model.NONE : numberOf(result));
+        for (int k = 0; m >= 0 && k + 1 < signature.size(); k++) both.param(m, numberOf(signature.get(k)));
+    }
+
+    /** A METHOD that is signed as that of a DELEGATE, so that it can be bound. */
+    private void bindable() {
+        Model.X x = model.x(anyExpr());
+        for (int n = 0; n < 20 && (model.kind(x) != 3 || x.hasT()); n++) x = model.x(anyExpr());
+        int t = any(model.types.size());
+        if (model.kind(x) != 3 || x.hasT() || model.types.get(t).kind > 1) return;
+        Model.Me d = null;
+        for (Model.Me m : model.methods) if (m.type == x.type()) d = m;
+        if (d == null) return;
+        int mode = model.types.get(t).open || chance(50) ? 1 + any(2) : 0;
+        List<Model.X> signature = model.signature(d, x);
+        Model.X result = signature.get(signature.size() - 1);
+        for (Model.X y : signature) if (y != null && numberOf(y) == Model.NONE) return;
+        int m = both.method(t, any(10), mode, result == null ? Model.NONE : numberOf(result));
         for (int k = 0; m >= 0 && k + 1 < signature.size(); k++) both.param(m, numberOf(signature.get(k)));
     }
 
@@ -224,6 +242,8 @@ final class Programs {
     }
 
     private boolean tryStatement(int deep) {
+        if (chance(6)) return held(deep);
+        if (chance(5)) return merged();
         switch (any(deep > 0 ? 22 : 15)) {
             case 0: case 1: case 2: return value(Model.X.INT, 2) && line(51, 0, 0);
             case 3: case 4: return me.locals.isEmpty() || setLocal();
@@ -241,6 +261,27 @@ final class Programs {
             case 17: return loop(deep);
             default: return attempt(deep);
         }
+    }
+
+    /** Something else is done while a value lies on the stack. */
+    private boolean held(int deep) {
+        return value(anyFit(), 1) && tryStatement(0) && line(20, 0, 0);
+    }
+
+    /** One of two values, most of the time such as go together. */
+    private boolean merged() {
+        int otherwise = label();
+        int end = label();
+        Model.X x = anyFit();
+        Model.X y = chance(70) ? x : anyFit();
+        if (!value(Model.X.INT, 1)) return false;
+        line(18, otherwise, 0);
+        if (!value(x, 1)) return false;
+        line(16, end, 0);
+        here(otherwise);
+        if (model.isReference(x) && chance(25) ? !line(2, 0, 0) : !value(y, 1)) return false;
+        here(end);
+        return line(20, 0, 0);
     }
 
     private void setLocal(int k) {
@@ -327,7 +368,7 @@ final class Programs {
         int end = label();
         here(begin);
         line(5, k, 0);
-        line(1, any(5), 0);
+        line(1, chance(10) ? 9999 : any(5), 0);
         line(15, 0, 0);
         line(18, end, 0);
         statement(deep - 1);
@@ -507,8 +548,11 @@ final class Programs {
         switch (deep <= 0 ? 0 : any(7)) {
             case 0: case 1: case 2: {
                 if (x.isRow()) {
-                    Model.X y = anyFit();
-                    if (!goesInto(y.row(), x)) y = x.of();
+                    Model.X y = x.of();
+                    for (int n = 0; n < 6; n++) {
+                        Model.X z = anyFit();
+                        if (goesInto(z.row(), x)) y = z;
+                    }
                     return isFit(y) && line(1, chance(4) ? 13 : 2 + any(4), 0) && line(37, numberOf(y), 0);
                 }
                 for (int n = 0; n < 8; n++) {
