@@ -22,6 +22,7 @@ public final class FaultEdgesTest {
         forgets();
         cutInside();
         throwsAgain();
+        leads();
         Due.end("FaultEdgesTest");
     }
 
@@ -427,6 +428,22 @@ public final class FaultEdgesTest {
         c.walk(0, 0, 0, 0);
         c.step(600);
         Due.is("44 CUT in the BLOCK of a CATCH", c.ofWalk(1) + " " + c.ofWalk(6), "2 0");
+    }
+
+    /** What a FAULT leads to is REACHED as long as that is. */
+    private static void leads() {
+        world();
+        int f = c.field(1, 1, false);
+        // The FAULT has an object; its CELLS are 4, with that 6.
+        String made = "make 5; dup; make 1; set " + f + " 5; throw; ";
+        write(0, made + "cells; out; endfinally; pop; cells; out; leave 12; cells; ret", h(FINALLY, 0, 5, 5, 8), h(CATCH, 0, 8, 8, 12));
+        due("in a BLOCK that is done for it", 0, "0 0 0 [6 0]");
+        write(0, made + "pop; cells; out; num 1; endfilter; setloc 1; cells; out; leave 14; cells; ret", h(FILTER, 0, 5, 10, 14, 5));
+        due("in its TEST", 0, "0 0 6 [6 6]");
+        write(0, made);
+        c.walk(0, 0, 0, 0);
+        c.step(600);
+        Due.is("50 UNCAUGHT", c.reached(0) + " " + c.reached(1) + " " + c.thing(1) + " " + c.ofWalk(7), "1 2 {0,object#2} 6");
     }
 
     private static void throwsAgain() {

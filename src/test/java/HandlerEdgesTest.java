@@ -371,6 +371,11 @@ public final class HandlerEdgesTest {
         due("5 0", "nop; ret; nop", h(FINALLY, 2, 3, 0, 1));
         due("5 0", "nop; ret; nop; nop", h(FILTER, 2, 3, 1, 2, 0));
         due("5 0", "add; ret; nop", h(CATCH, 2, 3, 0, 1));
+        due("5 0", "go 0; leave 2; ret", h(CATCH, 1, 2, 0, 1));
+        due("5 0", "go 0; ret; nop", h(FINALLY, 2, 3, 0, 1));
+        due("5 0", "go 0; throw; leave 3; ret", h(FILTER, 2, 3, 1, 2, 0));
+        due("5 0", "num 10000; throw; leave 3; ret", h(FILTER, 2, 3, 1, 2, 0));
+        due("5 0", "add; ret; nop", h(CATCH, 2, 3, 0, 1));
         Due.is("33 0 has its STATE then, the others have none", c.state(m, 0) + "/" + c.state(m, 1), "/-");
     }
 

@@ -25,7 +25,10 @@ public final class RunEdgesTest {
         beginsAnew();
         tOfStructs();
         fieldsOfT();
+        copies();
+        boxesAsThis();
         answersOfSignatures();
+        holders();
         bodies();
         entries();
         results();
@@ -134,7 +137,8 @@ public final class RunEdgesTest {
     }
 
     private static void rows() {
-        int[] lengths = {MIN, -1, 0, 1, 11, 12, 13, MAX};
+        // (Those that are too many are so for LIMIT, too: 8 goes ahead of 5.)
+        int[] lengths = {MIN, -1, 0, 1, 11, 12, 13, 117, 118, 200, 9999, MAX / 2, MAX};
         for (int n : lengths) {
             world(1);
             boolean is = n >= 0 && n <= 12;
@@ -372,14 +376,27 @@ public final class RunEdgesTest {
         due(String.format(code, "nop"), "0 0 120 []");
         for (String made : "make 1,make 4,num 0; row 0,num 1; box 0".split(",")) due(String.format(code, made + "; pop"), "1 5 0 []");
         due(String.format(code, "null; setloc 1; make 4; pop"), "0 0 0 []");
+        // What is NULL or not let is told ahead of that there is no room.
+        int call = c.expr(0, c.type(3, false, -1, -1), 0);
+        c.method(1, 0, 2, -1);
+        int own = method(0, 1, 1, -1, "ret");
+        int target = c.local(0, 4) - 1;
+        due(String.format(code, "loc " + target + "; bind " + own + " " + call + "; pop"), "1 1 0 []");
+        due(String.format(code, "num 13; row 0; pop"), "1 8 0 []");
+        due(String.format(code, "num -1; row 0; pop"), "1 8 0 []");
+        due(String.format(code, "num 1; num 0; div; pop"), "1 4 0 []");
         c.limit(121);
         due(String.format(code, "make 4; pop"), "1 5 0 []");
         c.limit(122);
         due(String.format(code, "make 4; pop"), "0 0 120 []");
+        c.share(false);
+        c.knock();
+        int runs = c.house(0);
         c.clear();
-        Due.is("15 LIMIT stays", c.house(4), 122);
+        Due.is("15 LIMIT, SHARED, knocks, runs stay", c.house(4) + " " + c.house(5) + " " + c.house(6) + " " + (c.house(0) - runs), "122 0 1 0");
         c.sample(0);
-        Due.is("16 LIMIT stays", c.house(4), 122);
+        Due.is("16 LIMIT, SHARED, knocks, runs stay", c.house(4) + " " + c.house(5) + " " + c.house(6) + " " + (c.house(0) - runs), "122 0 1 0");
+        Due.is("16 the last run stays", c.ofRun(0) + " " + c.ofRun(3), "0 120");
     }
 
     /** What is REACHED, and no more as soon as it is gone from there. */
@@ -535,6 +552,68 @@ public final class RunEdgesTest {
         Due.is("20 its text", c.exprText(hT), "t3<T>");
     }
 
+    /** A VALUE of a STRUCT is copied wherever it goes; a PLACE of it is not. */
+    private static void copies() {
+        world();
+        int s = c.expr(0, c.type(1, false, -1, -1), 0);
+        c.field(1, 0, false);
+        c.field(1, 0, false);
+        c.field(0, s, false);
+        c.field(0, s, true);
+        int place = c.expr(3, s, 0);
+        int byValue = method(0, 1, 0, s, "argp 0; num 50; set 0 " + s + "; arg 0; ret", s);
+        int byPlace = method(0, 1, 0, -1, "arg 0; num 60; set 0 " + s + "; ret", place);
+        for (int x : new int[] {s, s, c.expr(2, s, 0), 1}) c.local(0, x);
+        String first = "locp 0; num 5; set 0 " + s + "; locp 0; num 6; set 1 " + s + "; ";
+        String told = "loc 0; get 0 " + s + "; out; ";
+        String other = "loc 1; get 0 " + s + "; out; loc 1; get 1 " + s + "; ret";
+        due(first + "loc 0; setloc 1; locp 1; num 9; set 0 " + s + "; " + told + other, "0 0 6 [5 9]");
+        due(first + "loc 0; call " + byValue + " 4; setloc 1; " + told + other, "0 0 6 [5 50]");
+        due(first + "locp 0; call " + byPlace + " 4; loc 0; setloc 1; " + told + other, "0 0 6 [60 60]");
+        due(first + "loc 0; dup; locp 0; num 9; set 0 " + s + "; setloc 1; pop; " + told + other, "0 0 6 [9 5]");
+        due(first + "loc 0; box " + s + "; setloc 3; locp 0; num 9; set 0 " + s + "; loc 3; unboxa " + s + "; setloc 1; " + told + other, "0 0 6 [9 5]");
+        due(first + "loc 0; box " + s + "; setloc 3; loc 3; unbox " + s + "; num 9; set 0 " + s + "; loc 3; unboxa " + s + "; setloc 1; " + told + other, "0 0 6 [5 9]");
+        due(first + "num 2; row " + s + "; setloc 2; loc 2; num 1; loc 0; put " + s + "; loc 2; num 1; at " + s + "; setloc 1; locp 1; num 9; set 0 " + s
+            + "; loc 2; num 1; at " + s + "; get 0 " + s + "; out; " + told + other, "0 0 6 [5 5 9]");
+        due(first + "num 2; row " + s + "; setloc 2; loc 2; num 1; loc 0; put " + s + "; loc 2; num 1; atp " + s + "; num 9; set 0 " + s
+            + "; loc 2; num 1; at " + s + "; setloc 1; " + told + other, "0 0 6 [5 9]");
+        due(first + "make 4; setloc 3; loc 3; cast 4; loc 0; set 2 4; loc 3; cast 4; getp 2 4; num 9; set 0 " + s + "; loc 3; cast 4; get 2 4; setloc 1; " + told + other, "0 0 6 [5 9]");
+        due(first + "loc 0; sets 3 4; getsp 3 4; num 9; set 0 " + s + "; gets 3 4; setloc 1; " + told + other, "0 0 6 [5 9]");
+        due(first + "locp 1; loc 0; store " + s + "; locp 0; num 9; set 0 " + s + "; " + told + other, "0 0 6 [9 5]");
+        due(first + "locp 0; load " + s + "; locp 0; init " + s + "; setloc 1; " + told + other, "0 0 6 [0 5]");
+        // Each FRAME has LOCALS of its own, 0 at first, and what it is given for itself.
+        int counts = method(0, 1, 0, 0, "", 0);
+        c.local(counts, 0);
+        Due.write(c, counts, "loc 0; num 1; add; setloc 0; arg 0; ifnot 11; arg 0; num 1; sub; call " + counts + " 4; pop; loc 0; ret");
+        due("num 3; call " + counts + " 4; out; num 0; call " + counts + " 4; ret", "0 0 1 [1]");
+    }
+
+    /** A call whose THIS is a BOX: by "callv", by "callon" of what is there, by the BASES of INTERFACES. */
+    private static void boxesAsThis() {
+        world();
+        int i = c.expr(0, c.type(2, false, -1, -1), 0);
+        int asked = c.method(1, 3, 2, 0);
+        int s = c.expr(0, c.type(1, false, -1, -1), 0);
+        c.field(2, 0, false);
+        c.implement(2, i);
+        method(2, 3, 2, 0, "arg 0; arg 0; get 0 " + s + "; num 1; add; set 0 " + s + "; arg 0; get 0 " + s + "; ret");
+        c.local(0, s);
+        c.local(0, i);
+        String box = "loc 0; box " + s + "; cast " + i + "; setloc 1; ";
+        String twice = "loc 1; callv " + asked + " " + i + "; out; ";
+        due(box + twice + twice + "loc 0; get 0 " + s + "; ret", "0 0 0 [1 2]");
+        due(box + "locp 1; callon " + asked + " " + i + "; out; " + twice + "loc 1; unboxa " + s + "; get 0 " + s + "; ret", "0 0 2 [1 2]");
+        due("locp 0; callon " + asked + " " + i + "; out; " + box + twice + "loc 0; get 0 " + s + "; ret", "0 0 1 [1 2]");
+        due("num 1; row " + i + "; dup; num 0; loc 0; box " + s + "; cast " + i + "; put " + i + "; num 0; atp " + i + "; callon " + asked + " " + i + "; ret", "0 0 1 []");
+        due("num 1; row " + s + "; num 0; atp " + s + "; callon " + asked + " " + i + "; ret", "0 0 1 []");
+        due("loc 1; callv " + asked + " " + i + "; ret", "1 1 0 []");
+        due("locp 1; callon " + asked + " " + i + "; ret", "1 1 0 []");
+        due("loc 0; box " + s + "; unbox " + s + "; callon " + asked + " " + i + "; ret", "0 0 1 []");
+        c.walk(0, 0, 0, 0);
+        c.step(4);
+        Due.is("48 THIS is a PLACE of what is in the BOX", c.value(1, 0, 0) + " " + c.holder(1) + " " + c.thing(1), "&(0) t2 <(0)>");
+    }
+
     /** SIGNATURES that are near to each other: an ANSWER has just the same one. */
     private static void answersOfSignatures() {
         c = new Cellruntime();
@@ -581,6 +660,58 @@ public final class RunEdgesTest {
         Due.is("25 one less and one more", c.answer(dT, two, aT), two);
         int last = method(2, 4, 2, 3, "", 3, 3);
         Due.is("25 just as many", c.answer(dT, two, aT), last);
+    }
+
+    /** HOLDER of an ANSWER: the one of the BASES that has it; of "call", and of what is not VIRTUAL, the one that is told. */
+    private static void holders() {
+        world();
+        int i = c.expr(0, c.type(2, false, -1, -1), 0);
+        int asked = c.method(1, 3, 2, -1);
+        c.type(0, true, -1, 4);
+        int aT = c.expr(1, 2, 3);
+        int rowT = c.expr(2, 3, 0);
+        int aRow = c.expr(1, 2, rowT);
+        int virtual = method(2, 3, 2, -1, "ret");
+        int own = method(2, 4, 1, -1, "ret");
+        c.implement(2, i);
+        c.type(0, true, -1, aRow);
+        int bT = c.expr(1, 3, 3);
+        int bInt = c.expr(1, 3, 0);
+        int d = c.expr(0, c.type(0, false, -1, bInt), 0);
+        int aInts = c.expr(1, 2, c.expr(2, 0, 0));
+        int call = c.expr(0, c.type(3, false, -1, -1), 0);
+        c.method(5, 0, 2, -1);
+        for (int x : new int[] {d, i, aInts}) c.local(0, x);
+        String[] made = {"make " + bInt, "make " + d};
+        String[] calls = {"callv " + virtual + " " + aInts, "callv " + asked + " " + i, "call " + virtual + " " + aInts, "call " + own + " " + aInts, "callv " + own + " " + aInts,
+            "bind " + virtual + " " + call + "; invoke " + call, "bind " + own + " " + call + "; invoke " + call};
+        for (String one : made) {
+            for (String two : calls) holder(one + "; " + two, "t2<int[]>");
+            holder(one + "; setloc 1; locp 1; callon " + asked + " " + i, "t2<int[]>");
+            holder(one + "; setloc 2; locp 2; callon " + asked + " " + i, "t2<int[]>");
+        }
+        // With one above, that has it for itself.
+        method(3, 3, 2, -1, "ret");
+        for (String one : made) {
+            for (int k = 0; k < calls.length; k++) holder(one + "; " + calls[k], k <= 1 || k == 5 ? "t3<int>" : "t2<int[]>");
+            holder(one + "; setloc 1; locp 1; callon " + asked + " " + i, "t3<int>");
+        }
+        method(4, 3, 2, -1, "ret");
+        for (int k = 0; k < calls.length; k++) holder(made[1] + "; " + calls[k], k <= 1 || k == 5 ? "t4" : "t2<int[]>");
+        int still = method(4, 5, 0, -1, "ret");
+        holder("call " + still + " " + d, "t4");
+        holder("bind " + still + " " + call + "; invoke " + call, "t4");
+        int open = method(3, 5, 0, -1, "ret");
+        holder("call " + open + " " + bInt, "t3<int>");
+        Due.is("20 texts", c.exprText(aT) + c.exprText(bT), "t2<T>t3<T>");
+    }
+
+    private static void holder(String code, String want) {
+        write(0, code + "; num 1; ret");
+        Due.is("31 error of " + code, c.error(0), 0);
+        c.walk(0, 0, 0, 0);
+        c.step(code.split(";").length);
+        Due.is("47 HOLDER by " + code, c.ofWalk(5) + " " + c.holder(1), "2 " + want);
     }
 
     private static void bodies() {
