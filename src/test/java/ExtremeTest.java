@@ -1,7 +1,8 @@
 /** Far ends: types that grow, values of many cells, memory that gets full, stacks of handlers; nothing may break there. */
 public final class ExtremeTest {
     public static void main(String[] args) {
-        hugeStructs();
+        hugeStructs(6, 4);
+        hugeStructs(8, 3);
         deepTypes();
         deepBases();
         fullMemory();
@@ -18,35 +19,45 @@ public final class ExtremeTest {
         Due.end("ExtremeTest");
     }
 
-    /** STRUCTS that are filled from the outside in: each one alone has at most 8 CELLS as it is told, all together 4096. */
-    private static void hugeStructs() {
+    /** STRUCTS that are filled from the outside in: each one alone has at most 8 CELLS as it is told, all together thousands. */
+    private static void hugeStructs(int levels, int each) {
         Cellruntime c = new Cellruntime();
-        int[] x = new int[6];
-        for (int t = 0; t < 6; t++) {
+        int[] x = new int[levels];
+        int cells = 1;
+        for (int t = 0; t < levels; t++) {
             c.type(1, false, -1, -1);
             x[t] = c.expr(0, t, 0);
+            cells *= each;
         }
-        for (int t = 5; t > 0; t--) for (int k = 0; k < 4; k++) Due.is("5 four of the one before", c.field(t, x[t - 1], false) >= 0, true);
-        for (int k = 0; k < 4; k++) c.field(0, 0, false);
-        Due.is("21 CELLS", c.cellsOf(x[5]), 4096);
-        Due.is("5 no more of it", c.field(5, 0, false), -2);
+        int last = x[levels - 1];
+        for (int t = levels - 1; t > 0; t--) for (int k = 0; k < each; k++) Due.is("5 some of the one before", c.field(t, x[t - 1], false) >= 0, true);
+        for (int k = 0; k < each; k++) c.field(0, 0, false);
+        Due.is("21 CELLS", c.cellsOf(last), cells);
+        Due.is("5 no more of it", c.field(levels - 1, 0, false), -2);
         c.type(0, false, -1, 1);
-        int k = c.expr(0, 6, 0);
-        int m = c.method(6, 0, 0, 0);
+        int k = c.expr(0, levels, 0);
+        int m = c.method(levels, 0, 0, 0);
         c.param(m, 0);
-        for (int n = 0; n < 4; n++) c.local(m, x[5]);
-        Due.write(c, m, "loc 0; loc 1; loc 2; loc 3; loc 0; pop; pop; pop; pop; pop; arg 0; ifnot 17; arg 0; num 1; sub; call " + m + " " + k + "; ret; loc 0; box " + x[5] + "; pop; num 1; ret");
-        Due.is("37 eight FRAMES of it", Due.run(c, m, 7, 0, 0), "1 5 0 []");
-        Due.is("37 a ninth", Due.run(c, m, 8, 0, 0), "1 6 0 []");
-        c.walk(m, 0, 0, 0);
-        c.step(5);
-        Due.is("48 its text", c.value(0, 2, 4).length(), textOf(6));
+        c.param(m, last);
+        c.param(m, last);
+        for (int n = 0; n < 4; n++) c.local(m, last);
+        int e = c.method(levels, 0, 0, 0);
+        c.param(e, 0);
+        c.local(e, last);
+        Due.write(c, m, "loc 0; loc 1; loc 2; loc 3; loc 0; pop; pop; pop; pop; pop; arg 0; ifnot 19; arg 0; num 1; sub; arg 1; loc 0; call " + m + " " + k + "; ret; loc 0; box " + last
+            + "; pop; num 1; ret");
+        Due.write(c, e, "arg 0; loc 0; loc 0; call " + m + " " + k + "; ret");
+        Due.is("37 eight FRAMES of it", Due.run(c, e, 6, 0, 0), "1 5 0 []");
+        Due.is("37 a ninth", Due.run(c, e, 7, 0, 0), "1 6 0 []");
+        c.walk(e, 0, 0, 0);
+        c.step(9);
+        Due.is("48 its text", c.value(1, 2, 4).length(), textOf(levels, each));
         Due.is("54 sound", c.isSound(), true);
         Due.is("55 digest", c.digest(), Due.digest(c));
     }
 
-    private static int textOf(int deep) {
-        return deep == 0 ? 1 : 2 + 3 + 4 * textOf(deep - 1);
+    private static int textOf(int deep, int each) {
+        return deep == 0 ? 1 : 2 + each - 1 + each * textOf(deep - 1, each);
     }
 
     /** An ARGUMENT that gets deeper with each round. */

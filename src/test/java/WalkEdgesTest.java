@@ -291,6 +291,15 @@ public final class WalkEdgesTest {
             c.step(600);
             Due.is("44 with " + limit, c.ofWalk(1) + " " + c.ofWalk(2), limit < 21 ? "1 5" : "0 0");
         }
+        for (int limit : new int[] {20, 21, 120, 200}) {
+            c.limit(limit);
+            walk(code, 4);
+            c.step(600);
+            Due.is("44 begun with " + limit, c.ofWalk(1) + " " + c.ofWalk(2), limit < 21 ? "1 5" : "0 0");
+        }
+        c.limit(200);
+        walk("num 12; row 1; setloc 0; num 12; row 1; num 12; row 1; num 12; row 1; num 12; row 1; num 12; row 1; num 12; row 1; num 12; row 1; pop; pop; pop; pop; pop; pop; pop; num 1; ret", 17);
+        Due.is("44 as much as LIMIT of then", c.ofWalk(7), 120);
         c.limit(20);
         walk(code, 4);
         c.limit(21);
