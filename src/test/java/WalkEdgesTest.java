@@ -234,6 +234,13 @@ public final class WalkEdgesTest {
         Due.is("50 those of the last BASE first, CODE ahead of all", things(), "1{0,(0,null)} 2{0,(0,null)} 3{3,(0,null),null,4} 4{} 5m" + own + "(t0#4) 6m" + still + "()");
         Due.is("44 CELLS", c.ofWalk(7), 5 + 5 + 7 + 2 + 5 + 5);
         for (int n : new int[] {MIN, -1, 0, 7, 8, 600, 601, 602, 603, MAX}) Due.is("50 no THING " + n, c.thing(n), "-");
+        // Each kind of THING behind each other one.
+        c.field(0, 1, false);
+        int row = c.expr(2, 1, 0);
+        walk("make 4; make 2; dup; num 3; setcode; make " + h + "; dup; num 5; setcode; num 2; row 1; num 9; box 0; make 4; dup; dup; set 6 4; num 0; row " + row
+            + "; pop; pop; pop; pop; pop; pop; pop; num 1; ret", 19);
+        String[] want = {"{null}", "{3}", "{5,(0,null),null,0}", "[null,null]", "<9>", "{t0#6}", "[]"};
+        for (int one = 0; one < 7; one++) for (int other = 0; other < 7; other++) Due.is("50 " + other + " behind " + one, c.thing(one + 1) + c.thing(other + 1), want[one] + want[other]);
     }
 
     /** FRAMES from the lowest one on; places below are those of the calls. */
