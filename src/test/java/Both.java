@@ -146,15 +146,17 @@ final class Both {
     void compareMethods() {
         int right = 0;
         same("methods()", own.methods(), model.methods.size());
-        for (Model.Me m : model.methods) {
-            Model.Check check = model.check(m);
-            if (check.kind == 0) right++;
-            same("error(" + m.no + ")", own.error(m.no), check.kind);
-            same("errorPlace(" + m.no + ")", own.errorPlace(m.no), check.place);
-            for (int p = 0; p < m.code.size(); p++) same("state(" + m.no + ", " + p + ")", own.state(m.no, p), check.state(p));
-        }
+        for (Model.Me m : model.methods) if (compareMethod(m).kind == 0) right++;
         same("house(7)", own.house(7), right);
         same("isRight()", own.isRight(), model.allRight());
+    }
+
+    Model.Check compareMethod(Model.Me m) {
+        Model.Check check = model.check(m);
+        same("error(" + m.no + ")", own.error(m.no), check.kind);
+        same("errorPlace(" + m.no + ")", own.errorPlace(m.no), check.place);
+        for (int p = 0; p < m.code.size(); p++) same("state(" + m.no + ", " + p + ")", own.state(m.no, p), check.state(p));
+        return check;
     }
 
     // ---- runs

@@ -21,9 +21,13 @@ public final class FuzzTest {
             if (w > 0) System.out.println("seed " + seed + ": " + w + " answers are not the same");
             if (w > 0) wrong++;
         }
-        System.out.println("FuzzTest: " + many + " programs, " + rights + " right, " + runs + " runs: " + ends + " done, " + uncaught + " uncaught, " + cut + " cut");
+        tell("FuzzTest", many);
         if (args.length > 2) for (Map.Entry<String, Integer> e : Model.SEEN.entrySet()) System.out.println(e.getValue() + " " + e.getKey());
         if (wrong != 0) System.exit(1);
+    }
+
+    static void tell(String test, int many) {
+        System.out.println(test + ": " + many + " programs, " + rights + " right, " + runs + " runs: " + ends + " done, " + uncaught + " uncaught, " + cut + " cut");
     }
 
     private static int one(int seed) {
@@ -127,7 +131,7 @@ public final class FuzzTest {
         }
     }
 
-    private static void runAll(Random random, Both both, int round) {
+    static void runAll(Random random, Both both, int round) {
         Model model = both.model;
         boolean isRight = model.allRight();
         if (round == 0 && isRight) rights++;

@@ -77,7 +77,8 @@ final class Model {
         List<X> contracts = new ArrayList<>();
     }
 
-    record Fd(int type, X x, boolean isStatic, int no) {
+    /** A FIELD; by its number two that are alike in all else are told apart. */
+    record Fd(int type, X x, boolean isStatic, int number) {
     }
 
     static final class Me {
@@ -209,7 +210,7 @@ final class Model {
             for (Fd f : fields) if (f.type == type && !f.isStatic) cells += cells(f.x);
             if (cells > 8) return -6;
         }
-        fields.add(new Fd(type, x, isStatic, no));
+        fields.add(new Fd(type, x, isStatic, fields.size()));
         return fields.size() - 1;
     }
 
@@ -421,8 +422,13 @@ final class Model {
         int place = NONE;
         List<List<Entry>> states = new ArrayList<>();
 
+        /** How many entries the STATE has; NONE without one. */
+        int depth(int p) {
+            return states.isEmpty() || states.get(p) == null ? NONE : states.get(p).size();
+        }
+
         String state(int p) {
-            if (states.isEmpty() || states.get(p) == null) return "-";
+            if (depth(p) == NONE) return "-";
             StringBuilder all = new StringBuilder();
             for (Entry e : states.get(p)) all.append(all.length() > 0 ? " " : "").append(e);
             return all.toString();

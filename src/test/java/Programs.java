@@ -320,8 +320,25 @@ final class Programs {
     }
 
     private boolean put() {
+        if (chance(40)) return putInOther();
         Model.X x = anyFit();
         return value(x.row(), 1) && index() && value(x, 1) && line(40, numberOf(x), 0);
+    }
+
+    /** Into a ROW that is told as one of x, but may be of something that IS A x. */
+    private boolean putInOther() {
+        for (int n = 0; n < 12; n++) {
+            Model.X x = anyFit();
+            Model.X y = anyFit();
+            if (!model.isReference(x) || !isFit(x.row()) || !model.isA(y, x)) continue;
+            line(1, 2 + any(4), 0);
+            line(37, numberOf(y), 0);
+            line(35, numberOf(x.row()), 0);
+            if (!index()) return false;
+            if (chance(30)) return line(41, numberOf(x), 0) && line(42, numberOf(x), 0) && line(20, 0, 0);
+            return value(x, 1) && line(40, numberOf(x), 0);
+        }
+        return false;
     }
 
     private boolean store() {
