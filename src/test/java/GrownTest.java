@@ -7,7 +7,7 @@ import java.util.Random;
  */
 public final class GrownTest {
     public static void main(String[] args) {
-        int many = args.length > 0 ? Integer.parseInt(args[0]) : 30;
+        int many = args.length > 0 ? Integer.parseInt(args[0]) : 20;
         int first = args.length > 1 ? Integer.parseInt(args[1]) : 1;
         int wrong = 0;
         for (int seed = first; seed < first + many && wrong < 3; seed++) {

@@ -1,6 +1,6 @@
 /** Section 7 of the document: each SAMPLE is what comes of its acts, which stand here as the document tells them. */
 public final class SamplesTest {
-    private static final String[] ACTS = {
+    static final String[] ACTS = {
         "T 1 0 -1 -1; X 0 0 0; F 0 0 0; F 0 0 0; T 0 0 -1 1; M 0 1 1 -1; P 0 0; C 3 0 0; C 3 0 0; C 26 0 4; C 3 1 0; C 9 0 0; "
             + "C 27 0 4; C 3 0 0; C 3 0 0; C 26 1 4; C 1 1 0; C 9 0 0; C 27 1 4; C 25 0 0; M 1 0 0 0; P 1 0; L 1 4; L 1 0; C 1 0 0; "
             + "C 6 1 0; C 5 1 0; C 3 0 0; C 15 0 0; C 18 16 0; C 8 0 0; C 5 1 0; C 5 1 0; C 11 0 0; C 22 0 4; C 5 1 0; C 1 1 0; "
